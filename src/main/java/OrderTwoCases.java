@@ -151,7 +151,6 @@ public final class OrderTwoCases {
     }
 
     private int expand(long a, long b, int power) {
-        line.wipe();
         line.set(0, a);
         line.set(1, b);
         for (int k = 0; k + 2 <= power && k + 2 <= SERIES_TOP; k++) {
@@ -234,7 +233,7 @@ public final class OrderTwoCases {
             return -1;
         }
 
-        /** Puts x + by in place of x: a division by x - by for each power, the last one first. */
+        /** Puts x + by in place of x: what each division by x - by leaves is the next number. */
         void shift(long by) {
             long step = Numbers.of(by);
             for (int low = 0; low < numbers.length; low++) {

@@ -368,7 +368,9 @@ public final class PromisesTest {
         due("13 rest 0, any P of degree 1", plain.proves(0, 0, 0, 7, 5, 0), true);
         due("13 rest 0, degree 2", plain.proves(0, 0, 0, 7, 5, 1), false);
         due("13 highest power", equation(row(), row(0, 0, 0, 0, 1)).proves(0, 0, 0, 0, 0, 1), false);
-        // u = x x, P = x: 2 x x + 2 x x x + x^5 + g x must be 0 with g = -4 x - x^4.
+        due("13 highest power alone", equation(row(), row(0, 0, 0, 0, 1)).proves(0, 0, 0, 1, 0, 0), false);
+        due("13 u u and f u", equation(row(0, 0, -1), row(0, -2)).proves(0, 0, 2, 1, 0, 0), false);
+        // u = x x, P = x: 2 x x + (2 x + x^4 + g) x is 0 with g = -4 x - x^4.
         due("13 quartic", equation(row(), row(0, -4, 0, 0, -1)).proves(0, 0, 1, 0, 3, 0), true);
         due("13 quartic, f", equation(row(0, 0, 2), row(0, 2)).proves(0, 0, 0, 1, 0, 0), false);
         due("13 f u", equation(row(0, 0, -1), row(0, -2)).proves(0, 0, 1, 4, 0, 0), true);
@@ -382,6 +384,11 @@ public final class PromisesTest {
         dueAnswer("14", x, 0, row(0, 0, 0), row(1));
         dueAnswer("14", x, 1, row(0, 0, 0), row(0, 1));
         due("14 put", x.put(1, 4, 8), true);
+        OrderTwoCases hermite = equation(row(), row(25, 0, -1));
+        due("14 before", hermite.degree(0), 12);
+        hermite.clear();
+        dueAnswer("14 after an answer", hermite, 0, row(0, 0, 0), row(1));
+        dueAnswer("14 after an answer", hermite, 1, row(0, 0, 0), row(0, 1));
     }
 
     public static void main(String[] args) {

@@ -14,6 +14,8 @@ public final class ReferenceTest {
     private static int wrong = 0;
     private static final int[] seenDegrees = new int[13];
     private static final int[] seenKinds = new int[4];
+    private static OrderTwoCases kept = null;
+    private static int made = 0;
 
     private static void due(String what, long got, long want) {
         if (got != want) {
@@ -174,8 +176,13 @@ public final class ReferenceTest {
         return roots;
     }
 
+    /** An object with the equation; each is used twice, so that nothing of the one before may stay. */
     private static OrderTwoCases equation(long[] f, long[] g) {
-        OrderTwoCases x = new OrderTwoCases();
+        if (made % 2 == 0) {
+            kept = new OrderTwoCases();
+        }
+        made++;
+        OrderTwoCases x = kept;
         for (int i = 0; i <= 2; i++) {
             x.put(0, i, f[i] + PRIME * (long) RANDOM.nextInt());
         }
@@ -382,6 +389,12 @@ public final class ReferenceTest {
                 compareWithAnswer(1, d);
                 compareWithAnswer(2, d);
             }
+        }
+        for (int i = 0; i < 20; i++) {
+            made = 0;
+            long[] f = randomRow(2, PRIME);
+            compare(f, equationOf(f, new long[] {3, 2, 0}, new long[] {2 * (2 * (i % 13) + 1)}));
+            compare(f, equationOf(f, new long[] {i % 3, 0, 0}, new long[5]));
         }
         for (int d = 0; d <= 12; d++) {
             due("an answer of degree " + d + " was seen", seenDegrees[d] > 2 ? 1 : 0, 1);
