@@ -243,8 +243,10 @@ public final class OrderTwoCases {
             }
         }
 
-        int slopeAt(int power) {
-            return Numbers.of((power + 1L) * get(power + 1));
+        /** The number at a power of the slope, left as large as it comes: who asks adds up in longs. */
+        long slopeAt(int power) {
+            int above = power + 1;
+            return above > 0 && above < numbers.length ? (long) above * numbers[above] : 0;
         }
 
         /** The number that this times another has at a power. */
@@ -266,7 +268,7 @@ public final class OrderTwoCases {
         int lowerTerms(Row y, int power) {
             long sum = 0;
             for (int i = 0; i <= F_TOP; i++) {
-                sum += (long) first.get(i) * y.slopeAt(power - i);
+                sum += first.get(i) * y.slopeAt(power - i);
             }
             for (int i = 0; i <= G_TOP; i++) {
                 sum += (long) zeroth.get(i) * y.get(power - i);
@@ -366,7 +368,7 @@ public final class OrderTwoCases {
         private void fillRest(Operator equation) {
             Row f = equation.first;
             for (int i = 0; i <= G_TOP; i++) {
-                long sum = (long) QUARTER * f.timesAt(f, i) + (long) HALF * f.slopeAt(i);
+                long sum = (long) QUARTER * f.timesAt(f, i) + HALF * f.slopeAt(i);
                 rest.set(i, sum - equation.zeroth.get(i));
             }
         }

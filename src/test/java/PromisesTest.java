@@ -1,9 +1,8 @@
 import java.util.Arrays;
 
-/** Each promise of the document by hand-made cases: ordinary inputs, edges and wrong inputs. */
+/** Each promise of the document by hand-made cases; its boundary cases one by one are in EdgesTest. */
 public final class PromisesTest {
     private static final int PRIME = 32003;
-    private static final int[] WRONG = {Integer.MIN_VALUE, -32003, -2, -1, 100, 32003, Integer.MAX_VALUE};
     private static int wrong = 0;
 
     private interface Call {
@@ -125,12 +124,10 @@ public final class PromisesTest {
         throwsAndKeeps("2 put(2, 0, 1)", x, bad, () -> x.put(2, 0, 1) ? 1 : 0);
         throwsAndKeeps("2 put(0, 3, 1)", x, out, () -> x.put(0, 3, 1) ? 1 : 0);
         throwsAndKeeps("2 put(1, 5, 1)", x, out, () -> x.put(1, 5, 1) ? 1 : 0);
-        for (int w : WRONG) {
-            throwsAndKeeps("2 which " + w, x, bad, () -> x.put(w, 0, 1) ? 1 : 0);
-            throwsAndKeeps("2 which first " + w, x, bad, () -> x.put(w, 9, 1) ? 1 : 0);
-            throwsAndKeeps("2 power of f " + w, x, out, () -> x.put(0, w, 1) ? 1 : 0);
-            throwsAndKeeps("2 power of g " + w, x, out, () -> x.put(1, w, 1) ? 1 : 0);
-        }
+        throwsAndKeeps("2 put(-1, 0, 1)", x, bad, () -> x.put(-1, 0, 1) ? 1 : 0);
+        throwsAndKeeps("2 put(2, 9, 1)", x, bad, () -> x.put(2, 9, 1) ? 1 : 0);
+        throwsAndKeeps("2 put(0, -1, 1)", x, out, () -> x.put(0, -1, 1) ? 1 : 0);
+        throwsAndKeeps("2 put(1, -1, 1)", x, out, () -> x.put(1, -1, 1) ? 1 : 0);
     }
 
     private static void promise3() {
@@ -147,14 +144,9 @@ public final class PromisesTest {
         throwsAndKeeps("3 at(0, 3)", x, out, () -> x.at(0, 3));
         throwsAndKeeps("3 at(1, 5)", x, out, () -> x.at(1, 5));
         throwsAndKeeps("3 at(2, 5)", x, out, () -> x.at(2, 5));
-        for (int w : WRONG) {
-            throwsAndKeeps("3 which " + w, x, bad, () -> x.at(w, 0));
-            throwsAndKeeps("3 which first " + w, x, bad, () -> x.at(w, 9));
-            for (int which = 0; which <= 2; which++) {
-                int row = which;
-                throwsAndKeeps("3 power " + w, x, out, () -> x.at(row, w));
-            }
-        }
+        throwsAndKeeps("3 at(-1, 0)", x, bad, () -> x.at(-1, 0));
+        throwsAndKeeps("3 at(3, 9)", x, bad, () -> x.at(3, 9));
+        throwsAndKeeps("3 at(2, -1)", x, out, () -> x.at(2, -1));
     }
 
     private static void promise4() {
@@ -194,15 +186,6 @@ public final class PromisesTest {
         due("5 f alone", equation(row(0, 0, 3), row()).kind(), 3);
         due("5 f hides g", equation(row(2), row(1)).kind(), 0);
         due("5 f hides g, degree 4", equation(row(0, 2, 2), row(1, 2, 1, 2, 1)).kind(), 0);
-        boolean[] square = new boolean[PRIME];
-        for (int i = 1; i < PRIME; i++) {
-            square[number((long) i * i)] = true;
-        }
-        OrderTwoCases x = new OrderTwoCases();
-        for (int v = 1; v < 400; v++) {
-            x.put(1, 2, -v);
-            due("5 of " + v, x.kind(), square[v] ? 3 : 2);
-        }
     }
 
     private static void promise6() {
@@ -278,31 +261,25 @@ public final class PromisesTest {
 
     private static void wrongAnswersAndPowers() {
         Class<?> out = IndexOutOfBoundsException.class;
-        OrderTwoCases none = equation(row(), row(0, 1));
-        OrderTwoCases one = equation(row(), row(3, 0, -1));
-        OrderTwoCases two = equation(row(), row(-1));
-        OrderTwoCases[] all = {none, one, two};
+        long[][] all = {row(0, 1), row(3, 0, -1), row(-1)};
         for (int count = 0; count <= 2; count++) {
-            OrderTwoCases x = all[count];
-            due("7 count", x.answers(), count);
-            for (int k : new int[] {Integer.MIN_VALUE, -1, 0, 1, 2, 3, Integer.MAX_VALUE}) {
-                if (k < 0 || k >= count) {
-                    throwsAndKeeps("8 degree " + k, x, out, () -> x.degree(k));
-                    throwsAndKeeps("9 polynomial " + k, x, out, () -> x.polynomial(k, 0));
-                    throwsAndKeeps("10 slope " + k, x, out, () -> x.slope(k, 0));
-                    throwsAndKeeps("12 answer " + k, x, out, () -> x.answer(k, 0));
-                }
+            for (int k : new int[] {-1, count, 3}) {
+                OrderTwoCases x = equation(row(), all[count]);
+                due("7 count", x.answers(), count);
+                throwsAndKeeps("8 degree " + k, x, out, () -> x.degree(k));
+                throwsAndKeeps("9 polynomial " + k, x, out, () -> x.polynomial(k, 0));
+                throwsAndKeeps("10 slope " + k, x, out, () -> x.slope(k, 0));
+                throwsAndKeeps("12 answer " + k, x, out, () -> x.answer(k, 0));
             }
         }
-        for (int w : WRONG) {
-            throwsAndKeeps("9 power " + w, two, out, () -> two.polynomial(1, w));
-            throwsAndKeeps("10 power " + w, two, out, () -> two.slope(1, w));
-            throwsAndKeeps("11 power " + w, two, out, () -> two.series(1, 1, w));
-            throwsAndKeeps("12 power " + w, two, out, () -> two.answer(1, w));
-        }
+        OrderTwoCases two = equation(row(), row(-1));
+        throwsAndKeeps("9 power -1", two, out, () -> two.polynomial(1, -1));
         throwsAndKeeps("9 power 13", two, out, () -> two.polynomial(0, 13));
+        throwsAndKeeps("10 power -1", two, out, () -> two.slope(1, -1));
         throwsAndKeeps("10 power 3", two, out, () -> two.slope(0, 3));
+        throwsAndKeeps("11 power -1", two, out, () -> two.series(1, 1, -1));
         throwsAndKeeps("11 power 41", two, out, () -> two.series(1, 1, 41));
+        throwsAndKeeps("12 power -1", two, out, () -> two.answer(1, -1));
         throwsAndKeeps("12 power 41", two, out, () -> two.answer(0, 41));
     }
 
