@@ -165,7 +165,7 @@ public final class EdgesTest {
             x -> x.proves(0, 0, 0, 0, 0, 0), x -> x.answer(0, 40), x -> x.put(2, 0, 0), x -> x.degree(1)};
         for (int i = 0; i < last.length; i++) {
             OrderTwoCases x = new OrderTwoCases();
-            for (int call = 1; call <= 509; call++) {
+            for (int call = 1; call <= 508; call++) {
                 due("call " + call, outcome(x, fillerOf(call)), fillerDue(call));
             }
             x.clear();
