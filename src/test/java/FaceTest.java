@@ -8,10 +8,19 @@ import java.util.TreeSet;
 /** The class shows the document's face and nothing else. */
 public final class FaceTest {
     private static final String[] FACE = {
-        "boolean put(int,int,long)", "int at(int,int)", "void move(long)", "int kind()", "int tried(int)",
-        "int answers()", "int degree(int)", "int polynomial(int,int)", "int slope(int,int)",
-        "int series(long,long,int)", "int answer(int,int)", "boolean proves(int,int,int,int,int,int)",
-        "void clear()"};
+        "boolean put(int,int,long) throws IllegalArgumentException IndexOutOfBoundsException",
+        "int at(int,int) throws IllegalArgumentException IndexOutOfBoundsException",
+        "void move(long) throws",
+        "int kind() throws",
+        "int tried(int) throws IllegalStateException IllegalArgumentException",
+        "int answers() throws",
+        "int degree(int) throws IndexOutOfBoundsException",
+        "int polynomial(int,int) throws IndexOutOfBoundsException",
+        "int slope(int,int) throws IndexOutOfBoundsException",
+        "int series(long,long,int) throws IndexOutOfBoundsException",
+        "int answer(int,int) throws IndexOutOfBoundsException",
+        "boolean proves(int,int,int,int,int,int) throws",
+        "void clear() throws"};
     private static int wrong = 0;
 
     private static void expect(boolean holds, String what) {
@@ -28,7 +37,11 @@ public final class FaceTest {
             text.append(gap).append(type);
             gap = ",";
         }
-        return text.append(")").toString();
+        text.append(") throws");
+        for (Class<?> type : method.getExceptionTypes()) {
+            text.append(" ").append(type.getSimpleName());
+        }
+        return text.toString();
     }
 
     public static void main(String[] args) {

@@ -368,7 +368,30 @@ public final class PromisesTest {
         dueAnswer("14 after an answer", hermite, 1, row(0, 0, 0), row(0, 1));
     }
 
+    /** The lines under "Use" in README.md, in their order. */
+    private static void readme() {
+        OrderTwoCases x = new OrderTwoCases();
+        due("readme put", x.put(1, 0, 5), true);
+        due("readme put", x.put(1, 2, -1), true);
+        due("readme kind", x.kind(), 3);
+        due("readme tried 0", x.tried(0), 32000);
+        due("readme tried 1", x.tried(1), 2);
+        due("readme answers", x.answers(), 1);
+        due("readme degree", x.degree(0), 2);
+        due("readme polynomial", x.polynomial(0, 0), 16001);
+        due("readme slope", x.slope(0, 1), 32002);
+        due("readme proves", x.proves(0, -1, 0, -1, 0, 2), true);
+        // - 1/2 - 1/8 through 2 is - 9/16: 16 times 6000 is 3 times 32003, less 9.
+        due("readme answer", x.answer(0, 4), 6000);
+        due("readme series", x.series(16001, 0, 4), 6000);
+        x.move(1);
+        due("readme at after move", x.at(1, 0), 4);
+        x.clear();
+        due("readme kind after clear", x.kind(), 0);
+    }
+
     public static void main(String[] args) {
+        readme();
         promise1();
         promise2();
         promise3();
